@@ -180,7 +180,7 @@ public final class PrimalityDesk {
         if (n < 2 || n > GREATEST_FOR_CONGRUENT) {
             throw new UnsupportedOperationException("the number is not 2 .. 4095");
         }
-        return polynomial.isCongruent(n, m, c % n);
+        return polynomial.isCongruent(n, m, c);
     }
 
     public boolean prime(int a) throws IndexOutOfBoundsException, UnsupportedOperationException {
@@ -545,7 +545,7 @@ public final class PrimalityDesk {
         private final int[] coefficients = new int[GREATEST_DEGREE];
         private final int[] square = new int[GREATEST_DEGREE];
 
-        /** Whether (x + c)^n and x^n + c are congruent by n and m; c is less than n. */
+        /** Whether (x + c)^n and x^n + c are congruent by n and m. */
         boolean isCongruent(int n, int m, int c) {
             raiseBinomial(n, m, c);
             coefficients[n % m] -= 1;
