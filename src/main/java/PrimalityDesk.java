@@ -346,17 +346,14 @@ public final class PrimalityDesk {
             size = Words.length(x);
             // With the highest bit of the highest word set, a guessed digit is at most 2 too great.
             shift = WORD_BITS - Words.bitsOfWord(x[size - 1]);
-            long lower = 0;
-            for (int i = 0; i < size; i++) {
-                divisor[i] = (x[i] << shift | lower >>> (WORD_BITS - shift)) & WORD_MASK;
-                lower = x[i];
-            }
+            shiftUp(x, size, divisor);
         }
 
         void run(long[] dividend) {
             Arrays.fill(quotient, 0);
+            Arrays.fill(rest, 0);
             int length = Words.length(dividend);
-            loadRest(dividend, length);
+            rest[length] = shiftUp(dividend, length, rest);
             for (int j = length - size; j >= 0; j--) {
                 quotient[j] = nextDigit(j);
             }
@@ -373,14 +370,14 @@ public final class PrimalityDesk {
             }
         }
 
-        private void loadRest(long[] dividend, int length) {
-            Arrays.fill(rest, 0);
-            long lower = 0;
+        /** Answers the bits that leave the highest word. */
+        private long shiftUp(long[] from, int length, long[] to) {
+            long out = 0;
             for (int i = 0; i < length; i++) {
-                rest[i] = (dividend[i] << shift | lower >>> (WORD_BITS - shift)) & WORD_MASK;
-                lower = dividend[i];
+                to[i] = (from[i] << shift | out) & WORD_MASK;
+                out = from[i] >>> (WORD_BITS - shift);
             }
-            rest[length] = lower >>> (WORD_BITS - shift);
+            return out;
         }
 
         private long nextDigit(int j) {
