@@ -51,9 +51,9 @@ public final class ArithmeticTest {
         for (BigInteger x : Check.edges()) {
             for (BigInteger y : Check.edges()) {
                 for (String name : THREE) {
-                    compareWithModel(name, new BigInteger[] {x, y}, 0, 1, 2);
+                    CHECK.likeModel(new BigInteger[] {x, y}, name, 0, 1, 2);
                 }
-                compareWithModel("divide", new BigInteger[] {x, y}, 0, 1, 2, 3);
+                CHECK.likeModel(new BigInteger[] {x, y}, "divide", 0, 1, 2, 3);
             }
         }
     }
@@ -64,11 +64,11 @@ public final class ArithmeticTest {
             for (int b = 0; b < 6; b++) {
                 for (int c = 0; c < 6; c++) {
                     for (String name : THREE) {
-                        compareWithModel(name, values, a, b, c);
+                        CHECK.likeModel(values, name, a, b, c);
                     }
                     for (int d = 0; d < 6; d++) {
-                        compareWithModel("divide", values, a, b, c, d);
-                        compareWithModel("power", values, a, b, c, d);
+                        CHECK.likeModel(values, "divide", a, b, c, d);
+                        CHECK.likeModel(values, "power", a, b, c, d);
                     }
                 }
             }
@@ -80,10 +80,10 @@ public final class ArithmeticTest {
         Random random = new Random(20261115);
         for (int i = 0; i < 100000; i++) {
             BigInteger[] values = {oddNumber(random), oddNumber(random), oddNumber(random)};
-            compareWithModel("divide", values, 0, 1, 2, 3);
-            compareWithModel(THREE[i % THREE.length], values, 0, 1, 2);
+            CHECK.likeModel(values, "divide", 0, 1, 2, 3);
+            CHECK.likeModel(values, THREE[i % THREE.length], 0, 1, 2);
             if (i % 50 == 0) {
-                compareWithModel("power", values, 0, 1, 2, 3);
+                CHECK.likeModel(values, "power", 0, 1, 2, 3);
             }
         }
     }
@@ -108,34 +108,26 @@ public final class ArithmeticTest {
             x = y;
             y = next;
         }
-        compareWithModel("gcd", new BigInteger[] {x, y}, 0, 1, 2);
-        compareWithModel("gcd", new BigInteger[] {x, y}, 1, 0, 0);
+        CHECK.likeModel(new BigInteger[] {x, y}, "gcd", 0, 1, 2);
+        CHECK.likeModel(new BigInteger[] {x, y}, "gcd", 1, 0, 0);
         BigInteger[] zeros = Check.numbers(0, 0);
-        compareWithModel("gcd", zeros, 0, 1, 2);
-        compareWithModel("gcd", new BigInteger[] {BigInteger.ZERO, GREATEST}, 0, 1, 2);
-        compareWithModel("gcd", new BigInteger[] {GREATEST, BigInteger.ZERO}, 0, 1, 2);
+        CHECK.likeModel(zeros, "gcd", 0, 1, 2);
+        CHECK.likeModel(new BigInteger[] {BigInteger.ZERO, GREATEST}, "gcd", 0, 1, 2);
+        CHECK.likeModel(new BigInteger[] {GREATEST, BigInteger.ZERO}, "gcd", 0, 1, 2);
     }
 
     private static void powers() {
-        compareWithModel("power", Check.numbers(0, 0, 1), 0, 1, 2, 3);
-        compareWithModel("power", Check.numbers(0, 0, 2), 0, 1, 2, 3);
-        compareWithModel("power", Check.numbers(0, 5, 7), 0, 1, 2, 3);
-        compareWithModel("power", Check.numbers(5, 0, 0), 0, 1, 2, 3);
+        CHECK.likeModel(Check.numbers(0, 0, 1), "power", 0, 1, 2, 3);
+        CHECK.likeModel(Check.numbers(0, 0, 2), "power", 0, 1, 2, 3);
+        CHECK.likeModel(Check.numbers(0, 5, 7), "power", 0, 1, 2, 3);
+        CHECK.likeModel(Check.numbers(5, 0, 0), "power", 0, 1, 2, 3);
         BigInteger[] edges = Check.edges();
         for (int i = 0; i < edges.length; i++) {
             for (int j = 0; j < edges.length; j++) {
                 BigInteger third = edges[(7 * i + 3 * j) % edges.length];
-                compareWithModel("power", new BigInteger[] {edges[i], edges[j], third}, 0, 1, 2, 3);
-                compareWithModel("power", new BigInteger[] {edges[i], third, edges[j]}, 0, 1, 2, 3);
+                CHECK.likeModel(new BigInteger[] {edges[i], edges[j], third}, "power", 0, 1, 2, 3);
+                CHECK.likeModel(new BigInteger[] {edges[i], third, edges[j]}, "power", 0, 1, 2, 3);
             }
         }
-    }
-
-    private static void compareWithModel(String name, BigInteger[] values, long... arguments) {
-        PrimalityDesk desk = Check.desk(values);
-        Model model = new Model();
-        System.arraycopy(values, 0, model.registers, 0, values.length);
-        CHECK.call(desk, model.answer(name, arguments), name, arguments);
-        CHECK.registers(name, desk, model.registers);
     }
 }

@@ -30,6 +30,31 @@ final class Check {
         }
     }
 
+    /** On a desk with these numbers the call answers what is due, and all registers are as before. */
+    void unchanged(BigInteger[] held, String want, String name, long... arguments) {
+        oneCall(held, want, new Model(held).registers, name, arguments);
+    }
+
+    /** On a desk with these numbers the call is done, and only this one register changes. */
+    void becomes(BigInteger[] held, int register, BigInteger value, String name, long... arguments) {
+        BigInteger[] after = new Model(held).registers;
+        after[register] = value;
+        oneCall(held, "done", after, name, arguments);
+    }
+
+    /** On a desk with these numbers the call answers and changes what it does on the model. */
+    void likeModel(BigInteger[] held, String name, long... arguments) {
+        Model model = new Model(held);
+        String want = model.answer(name, arguments);
+        oneCall(held, want, model.registers, name, arguments);
+    }
+
+    private void oneCall(BigInteger[] held, String want, BigInteger[] after, String name, long... arguments) {
+        PrimalityDesk desk = desk(held);
+        call(desk, want, name, arguments);
+        registers("after " + name + Arrays.toString(arguments) + " on " + Arrays.toString(held), desk, after);
+    }
+
     void end() {
         System.out.println(asked + " answers, " + wrong + " not as due");
         if (wrong != 0 || asked == 0) {

@@ -10,8 +10,10 @@ final class Model {
 
     final BigInteger[] registers = new BigInteger[6];
 
-    Model() {
+    /** The registers hold the numbers given, those after them 0. */
+    Model(BigInteger... held) {
         Arrays.fill(registers, BigInteger.ZERO);
+        System.arraycopy(held, 0, registers, 0, held.length);
     }
 
     String answer(String name, long... v) {

@@ -15,13 +15,12 @@ public final class WrongInputsTest {
         argumentsOutOfRange();
         argumentBeforeArithmeticAndUnsupported();
         numbersOutOfRange();
+        everyMixOfArguments();
         CHECK.end();
     }
 
     private static void refused(String want, String name, long... arguments) {
-        PrimalityDesk desk = Check.desk(VALUES);
-        CHECK.call(desk, want, name, arguments);
-        CHECK.registers(name + " that throws", desk, VALUES);
+        CHECK.unchanged(VALUES, want, name, arguments);
     }
 
     private static void everyRegisterArgument() {
@@ -94,6 +93,42 @@ public final class WrongInputsTest {
         }
         for (int a : new int[] {3, 4, 5}) {
             refused(Model.UNSUPPORTED, "prime", a);
+        }
+    }
+
+    /** Each argument at its ends and just beyond them, in every mix: the model tells which exception comes first. */
+    private static void everyMixOfArguments() {
+        long[] registers = {-1, 0, 1, 2, 3, 4, 5, 6};
+        mix("put", registers, new long[] {Long.MIN_VALUE, -1, 0, 1, Long.MAX_VALUE});
+        mix("append", registers, new long[] {Integer.MIN_VALUE, -1, 0, 1, Integer.MAX_VALUE});
+        for (String name : new String[] {"add", "subtract", "multiply", "gcd"}) {
+            mix(name, registers, registers, registers);
+        }
+        mix("divide", registers, registers, registers, registers);
+        mix("power", registers, registers, registers, registers);
+        mix("compare", registers, registers);
+        for (String name : new String[] {"bits", "perfect", "modulus", "prime"}) {
+            mix(name, registers);
+        }
+        mix("word", registers, new long[] {Integer.MIN_VALUE, -1, 0, 1, 2, 3, 4, Integer.MAX_VALUE});
+        mix("order", registers, new long[] {Integer.MIN_VALUE, -1, 0, 1, 2, 3, 999, 1000, 1001, Integer.MAX_VALUE});
+        mix("congruent", registers, new long[] {Integer.MIN_VALUE, -1, 0, 1, 2, 63, 64, 65, Integer.MAX_VALUE},
+            new long[] {Integer.MIN_VALUE, -1, 0, 1, 4094, 4095, 4096, Integer.MAX_VALUE});
+    }
+
+    private static void mix(String name, long[]... choices) {
+        int mixes = 1;
+        for (long[] choice : choices) {
+            mixes *= choice.length;
+        }
+        for (int number = 0; number < mixes; number++) {
+            long[] arguments = new long[choices.length];
+            int left = number;
+            for (int i = 0; i < choices.length; i++) {
+                arguments[i] = choices[i][left % choices[i].length];
+                left /= choices[i].length;
+            }
+            CHECK.likeModel(VALUES, name, arguments);
         }
     }
 }
